@@ -74,11 +74,17 @@ public final class SkipPermits {
     }
 
     public int run() {
-        if (fault() != NONE) {
+        if (new Reader(pad).findFault() != NONE) {
             return BAD_TEXT;
         }
         history.prepare(town);
-        int done = town.obeyAll(new Reader(pad));
+        Reader reader = new Reader(pad);
+        int done = 0;
+        for (int orders = 0; orders < PAD_LENGTH && reader.readNext(); orders++) {
+            if (town.obey(reader) >= 0) {
+                done++;
+            }
+        }
         pad.empty();
         return history.settle(done);
     }
@@ -528,18 +534,8 @@ public final class SkipPermits {
             skips[standing] = gone;
         }
 
-        /** Returns how many of the orders are done. */
-        int obeyAll(Reader reader) {
-            int done = 0;
-            for (int orders = 0; orders < PAD_LENGTH && reader.readNext(); orders++) {
-                if (obey(reader) >= 0) {
-                    done++;
-                }
-            }
-            return done;
-        }
-
-        private int obey(Reader order) {
+        /** Returns what the method of the order would. */
+        int obey(Reader order) {
             switch (order.kind) {
                 case '+': return bringSkip(order.customer, order.size, order.street, order.number);
                 case 'w': return swapSkip(order.skip);
@@ -796,17 +792,21 @@ public final class SkipPermits {
             switch (kind) {
                 case '+':
                     at++;
-                    readNewSkip();
+                    customer = readDigit(0, CUSTOMERS - 1);
+                    size = readDigit(0, BIGGEST_SIZE);
+                    street = readDigit(0, DRIVE);
+                    readSign(':');
+                    number = readNumber(0, MOST_GROWTH);
                     break;
                 case 'w':
                 case '-':
                 case 'o':
                     at++;
-                    skip = readDigit(MOST_SKIPS - 1);
+                    skip = readDigit(0, MOST_SKIPS - 1);
                     break;
                 case 'p':
                     at++;
-                    skip = readDigit(MOST_SKIPS - 1);
+                    skip = readDigit(0, MOST_SKIPS - 1);
                     readSign(':');
                     number = readNumber(1, MOST_DAYS);
                     break;
@@ -819,14 +819,6 @@ public final class SkipPermits {
             }
         }
 
-        private void readNewSkip() {
-            customer = readDigit(CUSTOMERS - 1);
-            size = readDigit(BIGGEST_SIZE);
-            street = readDigit(DRIVE);
-            readSign(':');
-            number = readNumber(0, MOST_GROWTH);
-        }
-
         private void readSign(char sign) {
             if (!broken && pad.signAt(at) == sign) {
                 at++;
@@ -835,11 +827,7 @@ public final class SkipPermits {
             }
         }
 
-        private int readDigit(int highest) {
-            return readDigitFrom(0, highest);
-        }
-
-        private int readDigitFrom(int lowest, int highest) {
+        private int readDigit(int lowest, int highest) {
             int digit = pad.signAt(at) - '0';
             if (broken || !isWithin(digit, lowest, highest)) {
                 broken = true;
@@ -851,7 +839,7 @@ public final class SkipPermits {
 
         /** All numbers have two digits at most; one that cannot belong to it is left to fail as the next sign. */
         private int readNumber(int lowest, int highest) {
-            int first = readDigitFrom(lowest, 9);
+            int first = readDigit(lowest, 9);
             int second = pad.signAt(at) - '0';
             if (broken || first == 0 || !isWithin(second, 0, 9) || first * 10 + second > highest) {
                 return first;
