@@ -263,7 +263,7 @@ public final class SkipPermits {
 
         /** For how many of the days behind this one the permit lasts. */
         int permitDaysAhead(int day) {
-            return Math.max(0, lastDay - day);
+            return lastDay > day ? lastDay - day : 0;
         }
 
         int daysFined(int days, int day) {

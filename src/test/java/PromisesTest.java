@@ -1,3 +1,5 @@
+import java.util.List;
+
 /** Each numbered promise of the document: ordinary inputs, the edges that it names, and wrong inputs. */
 public final class PromisesTest {
     private static final int NO_SUCH = -1, BAD_VALUE = -2, BAD_TEXT = -3, TOO_MANY = -4, NOT_POSSIBLE = -5, NONE = -6;
@@ -39,12 +41,6 @@ public final class PromisesTest {
         promise25Save();
         promise26Restore();
         CHECKS.end();
-    }
-
-    private static SkipPermits busy() {
-        SkipPermits x = new SkipPermits();
-        x.set(SkipPermits.TRIPS, 9);
-        return x;
     }
 
     private static void promise1NewObject() {
@@ -90,7 +86,7 @@ public final class PromisesTest {
     }
 
     private static void promise3Places() {
-        SkipPermits x = busy();
+        SkipPermits x = States.busy();
         due("3: places(0, 4)", x.places(0, 4), 2);
         for (int i = 0; i < 4; i++) {
             due("3: put", x.put(0, 0, 0, 0), i);
@@ -124,7 +120,7 @@ public final class PromisesTest {
         due("4: put on a drive", x.put(0, 0, 5, 0), 1);
         due("4: no trip is left", x.put(0, 0, 5, 0), NOT_POSSIBLE);
         due("4: what it holds", x.skip(1, 4), 20);
-        SkipPermits y = busy();
+        SkipPermits y = States.busy();
         for (int i = 0; i < 7; i++) {
             due("4: any number on drives", y.put(1, 1, 5, 1), i);
         }
@@ -144,7 +140,7 @@ public final class PromisesTest {
     }
 
     private static void promise4PutErrorsInOrder() {
-        SkipPermits x = busy();
+        SkipPermits x = States.busy();
         due("4: put(6, 9, ..)", x.put(6, 9, 0, 99), NO_SUCH);
         due("4: put(-1, ..)", x.put(-1, 0, 0, 0), NO_SUCH);
         due("4: put street -1", x.put(0, 9, -1, 99), NO_SUCH);
@@ -193,7 +189,7 @@ public final class PromisesTest {
     }
 
     private static void promise6Take() {
-        SkipPermits x = busy();
+        SkipPermits x = States.busy();
         for (int customer = 0; customer < 4; customer++) {
             x.put(customer, customer, customer, 5 + customer);
         }
@@ -233,7 +229,7 @@ public final class PromisesTest {
     }
 
     private static void promise7Permit() {
-        SkipPermits x = busy();
+        SkipPermits x = States.busy();
         x.put(0, 0, 0, 0);
         x.put(0, 0, 5, 0);
         x.pass(4);
@@ -258,7 +254,7 @@ public final class PromisesTest {
     }
 
     private static void promise8Oil() {
-        SkipPermits x = busy();
+        SkipPermits x = States.busy();
         x.put(0, 0, 0, 0);
         x.pass(3);
         int charged = x.count(11);
@@ -280,7 +276,7 @@ public final class PromisesTest {
     }
 
     private static void promise9Growth() {
-        SkipPermits x = busy();
+        SkipPermits x = States.busy();
         x.put(0, 0, 0, 7);
         due("9: growth(0, 30)", x.growth(0, 30), 7);
         due("9: growth(0, 0)", x.growth(0, 0), 30);
@@ -381,7 +377,7 @@ public final class PromisesTest {
     }
 
     private static void promise12Skip() {
-        SkipPermits x = busy();
+        SkipPermits x = States.busy();
         x.pass(3);
         x.put(1, 0, 2, 0);
         x.put(4, 2, 3, 25);
@@ -403,7 +399,7 @@ public final class PromisesTest {
     }
 
     private static void promise13Street() {
-        SkipPermits x = busy();
+        SkipPermits x = States.busy();
         x.places(1, 3);
         for (int i = 0; i < 3; i++) {
             x.put(0, 0, 1, 0);
@@ -425,7 +421,7 @@ public final class PromisesTest {
     }
 
     private static void promise14Customer() {
-        SkipPermits x = busy();
+        SkipPermits x = States.busy();
         x.put(5, 0, 0, 10);
         x.put(5, 1, 5, 0);
         x.put(4, 0, 0, 0);
@@ -446,7 +442,7 @@ public final class PromisesTest {
     }
 
     private static void promise15Count() {
-        SkipPermits x = busy();
+        SkipPermits x = States.busy();
         x.put(0, 0, 0, 30);
         x.put(1, 0, 1, 20);
         x.put(2, 0, 2, 19);
@@ -466,7 +462,7 @@ public final class PromisesTest {
     }
 
     private static void promise16UntilFull() {
-        SkipPermits x = busy();
+        SkipPermits x = States.busy();
         x.put(0, 0, 5, 20);
         x.put(0, 0, 5, 19);
         x.put(0, 3, 5, 1);
@@ -487,7 +483,7 @@ public final class PromisesTest {
     }
 
     private static void promise17UntilFine() {
-        SkipPermits x = busy();
+        SkipPermits x = States.busy();
         x.put(0, 0, 0, 0);
         x.put(0, 0, 5, 0);
         due("17: without a permit", x.untilFine(0), 1);
@@ -512,7 +508,7 @@ public final class PromisesTest {
     }
 
     private static void promise18Cost() {
-        SkipPermits x = busy();
+        SkipPermits x = States.busy();
         x.put(3, 2, 0, 30);
         x.put(3, 0, 5, 0);
         x.put(2, 0, 1, 0);
@@ -534,7 +530,7 @@ public final class PromisesTest {
     }
 
     private static void promise19BestSwap() {
-        SkipPermits x = busy();
+        SkipPermits x = States.busy();
         x.put(0, 0, 0, 30);
         due("19: of several the latest", x.bestSwap(0, 2, 0), 1);
         due("19: units", x.bestSwap(0, 2, 1), 20);
@@ -558,7 +554,7 @@ public final class PromisesTest {
     }
 
     private static void promise20Dearest() {
-        SkipPermits x = busy();
+        SkipPermits x = States.busy();
         due("20: without skips", x.dearest(), NONE);
         x.put(0, 0, 5, 0);
         x.put(1, 0, 5, 0);
@@ -681,18 +677,18 @@ public final class PromisesTest {
     /** Each change, undone: all that can be read is as before it. */
     private static void promise24UndoOfEveryChange() {
         for (int change = 0; change < 11; change++) {
-            SkipPermits x = busy();
+            SkipPermits x = States.busy();
             x.put(0, 0, 0, 7);
             x.put(1, 1, 1, 25);
             x.save(0);
             x.pass(3);
-            int[] before = everything(x);
+            List<Integer> before = Probe.town(x);
             makeChange(x, change);
             due("24: recorded, change " + change, x.count(18), 5);
             due("24: undo() of change " + change, x.undo(), 4);
-            int[] after = everything(x);
-            for (int i = 0; i < before.length; i++) {
-                due("24: change " + change + ", number " + i, after[i], before[i]);
+            List<Integer> after = Probe.town(x);
+            for (int i = 0; i < before.size(); i++) {
+                due("24: change " + change + ", number " + i, after.get(i), before.get(i));
             }
         }
     }
@@ -713,24 +709,8 @@ public final class PromisesTest {
         }
     }
 
-    private static int[] everything(SkipPermits x) {
-        int[] all = new int[200];
-        int n = 0;
-        for (int what = 0; what < 17; what++) all[n++] = x.count(what);
-        for (int street = 0; street < 5; street++) {
-            for (int what = 0; what < 3; what++) all[n++] = x.street(street, what);
-        }
-        for (int customer = 0; customer < 6; customer++) {
-            for (int what = 0; what < 4; what++) all[n++] = x.customer(customer, what);
-        }
-        for (int skip = 0; skip < 10; skip++) {
-            for (int what = 0; what < 11; what++) all[n++] = x.skip(skip, what);
-        }
-        return all;
-    }
-
     private static void promise25Save() {
-        SkipPermits x = busy();
+        SkipPermits x = States.busy();
         due("25: save(0)", x.save(0), 0);
         x.put(0, 0, 0, 0);
         due("25: save(1)", x.save(1), 1);
@@ -747,32 +727,32 @@ public final class PromisesTest {
     }
 
     private static void promise26Restore() {
-        SkipPermits x = busy();
+        SkipPermits x = States.busy();
         due("26: nothing saved", x.restore(1), NOT_POSSIBLE);
         x.put(0, 0, 0, 9);
         x.places(4, 4);
         x.save(1);
-        int[] saved = everything(x);
+        List<Integer> saved = Probe.town(x);
         x.set(SkipPermits.HIRE, 0);
         x.pass(5);
         x.put(1, 1, 1, 1);
         x.write('o');
-        int[] before = everything(x);
+        List<Integer> before = Probe.town(x);
         due("26: restore(1)", x.restore(1), 1);
         due("26: the pad stays", x.count(17), 1);
         due("26: a change", x.count(18), 6);
-        int[] restored = everything(x);
+        List<Integer> restored = Probe.town(x);
         x.pass(2);
         due("26: the slot keeps it", x.restore(1), 1);
-        int[] again = everything(x);
+        List<Integer> again = Probe.town(x);
         due("26: undo()", x.undo(), 5);
         due("26: undo()", x.undo(), 4);
         due("26: undo() of the restore", x.undo(), 3);
-        int[] undone = everything(x);
-        for (int i = 0; i < saved.length; i++) {
-            due("26: number " + i, restored[i], saved[i]);
-            due("26: number " + i + " again", again[i], saved[i]);
-            due("26: number " + i + " undone", undone[i], before[i]);
+        List<Integer> undone = Probe.town(x);
+        for (int i = 0; i < saved.size(); i++) {
+            due("26: number " + i, restored.get(i), saved.get(i));
+            due("26: number " + i + " again", again.get(i), saved.get(i));
+            due("26: number " + i + " undone", undone.get(i), before.get(i));
         }
         int[] wrong = {-1, 2, LEAST, MOST};
         for (int slot : wrong) {
