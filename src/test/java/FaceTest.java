@@ -27,6 +27,8 @@ public final class FaceTest {
         constants();
         methods();
         members();
+        privateNames();
+        sizes();
         words();
         CHECKS.end();
     }
@@ -75,6 +77,34 @@ public final class FaceTest {
                 int flags = field.getModifiers();
                 boolean fine = !Modifier.isStatic(flags) || Modifier.isFinal(flags);
                 CHECKS.due("no static state: " + field.getName(), fine ? 1 : 0, 1);
+            }
+        }
+    }
+
+    private static List<Class<?>> classes() {
+        List<Class<?>> all = new ArrayList<>(List.of(SkipPermits.class.getDeclaredClasses()));
+        all.add(SkipPermits.class);
+        return all;
+    }
+
+    private static void privateNames() {
+        for (Class<?> each : classes()) {
+            for (Method method : each.getDeclaredMethods()) {
+                boolean isPublic = Modifier.isPublic(method.getModifiers());
+                boolean named = List.of(METHODS).stream().anyMatch(face -> face.startsWith(method.getName() + "("));
+                CHECKS.due("public by name and by right: " + method.getName(), isPublic == named ? 1 : 0, 1);
+            }
+        }
+    }
+
+    private static void sizes() {
+        CHECKS.due("twelve classes at most", classes().size() <= 12 ? 1 : 0, 1);
+        for (Class<?> each : classes()) {
+            long fields = List.of(each.getDeclaredFields()).stream()
+                .filter(field -> !Modifier.isStatic(field.getModifiers())).count();
+            CHECKS.due("twenty fields at most: " + each.getName(), fields <= 20 ? 1 : 0, 1);
+            for (Method method : each.getDeclaredMethods()) {
+                CHECKS.due("seven parameters at most: " + method.getName(), method.getParameterCount() <= 7 ? 1 : 0, 1);
             }
         }
     }
